@@ -267,10 +267,10 @@ public final class RotationCiphers {
         long longAt(int at) {
             long sum = 0;
             for (int k = 0; k < 8; k++) {
-                // As a long: an int would run over behind the greatest index.
-                long place = (long) at + k;
+                // Behind the greatest int the place wraps to below 0, where there is no byte either.
+                int place = at + k;
                 if (place >= 0 && place < length) {
-                    sum |= (bytes[(int) place] & 0xFFL) << (8 * k);
+                    sum |= (bytes[place] & 0xFFL) << (8 * k);
                 }
             }
             return sum;

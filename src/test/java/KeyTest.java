@@ -65,9 +65,12 @@ public final class KeyTest {
         }
         // Bytes that an earlier, longer key left behind must not come into a shorter one.
         RotationCiphers x = Bytes.keyed(1, 12, "ffffffffffffffffffffffff");
+        long sealed = Bytes.keyed(1, 12, "").seal(0, 0, 1);
         x.feed(1, 0);
         x.key(1, 12);
-        Expect.equal("a short key behind a long one", x.seal(0, 0, 1), Bytes.keyed(1, 12, "").seal(0, 0, 1));
+        Expect.equal("a short key behind a long one", x.seal(0, 0, 1), sealed);
+        x.key(1, 12);
+        Expect.equal("an empty key behind a short one", x.seal(0, 0, 1), sealed);
         // One round of kind 1 has 4 subkeys, and 16 words of key are more.
         Expect.equal("subkeys with more words than subkeys", longKeySubkeys(),
                 DocumentModel.subkeysOf(1, 1, longKey()).toString());
