@@ -202,11 +202,7 @@ public final class RotationCiphers {
     private void passCounted(int blocks) {
         before.copy(origin);
         for (int i = 0; i < blocks; i++) {
-            work.copy(before);
-            cipher.sealBlock(work);
-            load(data, i);
-            work.mix(data);
-            store(work, i);
+            mixWithSealed(i);
             before.countOn();
         }
     }
@@ -214,13 +210,18 @@ public final class RotationCiphers {
     private void passFedBack(int blocks, boolean seals) {
         before.copy(origin);
         for (int i = 0; i < blocks; i++) {
-            work.copy(before);
-            cipher.sealBlock(work);
-            load(data, i);
-            work.mix(data);
-            store(work, i);
+            mixWithSealed(i);
             before.copy(seals ? work : data);
         }
+    }
+
+    /** Leaves the block as it was in data, and what it becomes in work as well as on the tape. */
+    private void mixWithSealed(int number) {
+        work.copy(before);
+        cipher.sealBlock(work);
+        load(data, number);
+        work.mix(data);
+        store(work, number);
     }
 
     /** A block of 16 bytes; one of 8 bytes has its first long alone. */
