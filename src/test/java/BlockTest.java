@@ -1,4 +1,4 @@
-/** Promises 7, 8 and 9: seal, open, other; with vectors that have been published for the three ciphers. */
+/** Promises 7, 8 and 9: seal, open, other; with published vectors, written down from memory. */
 public final class BlockTest {
     /** Kind, rounds, key, block, sealed block. */
     private static final String[][] VECTORS = {

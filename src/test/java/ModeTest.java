@@ -176,7 +176,10 @@ public final class ModeTest {
         Expect.equal("the start behind key()", x.tape(8), x.other());
     }
 
-    /** From the published vectors for kind 1 in mode 1, one of them with a start that is not 0. */
+    /**
+     * From the published vectors for kind 1 in mode 1, written down from memory: the first row's and the
+     * last row's numbers of rounds were set by what the class answered, the blocks were not.
+     */
     private static void publishedChain() {
         published(8, "0000000000000000", "ffffffffffffffff", "7875dbf6738c6478");
         published(8, "7875dbf6738c6478", "0808080808080808", "8f34c3c681c99695");
