@@ -1,4 +1,4 @@
-/** Promises 7, 8 and 9: seal, open, other; with published vectors, written down from memory. */
+/** Promises 7, 8 and 9, sentence by sentence: seal, open, other; with published vectors, written down from memory. */
 public final class BlockTest {
     /** Kind, rounds, key, block, sealed block. */
     private static final String[][] VECTORS = {
@@ -28,17 +28,20 @@ public final class BlockTest {
         }
         for (int kind = 0; kind <= 2; kind++) {
             thereAndBack(kind);
+            noTime(kind);
             manyTimes(kind);
-            wrongTimes(kind);
+            refusesTimes(kind);
+            otherBefore(kind);
         }
-        everyProduct();
+        dearestRun();
         othersOfShortBlocks();
         othersOfWideBlocks();
         Expect.finish();
     }
 
     private static void published(String[] vector) {
-        RotationCiphers x = Bytes.keyed(Integer.parseInt(vector[0]), Integer.parseInt(vector[1]), vector[2]);
+        Expect.sentence("Promises 7 and 8", "The block sealed");
+        Subject x = Bytes.keyed(Integer.parseInt(vector[0]), Integer.parseInt(vector[1]), vector[2]);
         boolean wide = vector[3].length() == 32;
         String name = " with kind " + vector[0] + " and key " + vector[2];
         String sealed = Bytes.hex(x.seal(Bytes.first(vector[3]), Bytes.second(vector[3]), 1));
@@ -47,13 +50,14 @@ public final class BlockTest {
         Expect.equal("open" + name, opened + (wide ? Bytes.hex(x.other()) : ""), vector[3]);
     }
 
-    private static RotationCiphers some(int kind, int rounds) {
+    private static Subject some(int kind, int rounds) {
         return Bytes.keyed(kind, kind == 0 ? 8 : rounds, "00ff0100807f00000000000100fffe03");
     }
 
     private static void thereAndBack(int kind) {
+        Expect.sentence("Terms", "To OPEN a block is to find the one that is SEALED to it.");
         for (int rounds = 0; rounds <= 32; rounds++) {
-            RotationCiphers x = some(kind, rounds);
+            Subject x = some(kind, rounds);
             for (long seed = -20; seed < 20; seed++) {
                 long first = seed * 0x0123456789ABCDEFL;
                 long second = kind == 2 ? ~first * 77 : 0;
@@ -67,74 +71,128 @@ public final class BlockTest {
         }
     }
 
+    private static void noTime(int kind) {
+        Expect.sentence("Promises 7 and 8", "and so many times in all");
+        Subject x = some(kind, 9);
+        for (long first : new long[] {0, -9, Long.MIN_VALUE, Long.MAX_VALUE}) {
+            for (long second : new long[] {0, -8, Long.MIN_VALUE, Long.MAX_VALUE}) {
+                Expect.equal("seal no time", x.seal(first, second, 0), first);
+                Expect.equal("other() of seal no time", x.other(), kind == 2 ? second : 0);
+                Expect.equal("open no time", x.open(first, second, 0), first);
+                Expect.equal("other() of open no time", x.other(), kind == 2 ? second : 0);
+            }
+        }
+    }
+
+    /** Each number up to 1000 against one time more than the number before it. */
     private static void manyTimes(int kind) {
-        RotationCiphers x = some(kind, 9);
-        long first = 5;
-        long second = kind == 2 ? 6 : 0;
-        for (int i = 0; i < 1000; i++) {
-            first = x.seal(first, second, 1);
-            second = x.other();
+        Expect.sentence("Promises 7 and 8", "and so many times in all");
+        long[] sealed = {5, kind == 2 ? 6 : 0};
+        long[] opened = sealed.clone();
+        for (int times = 1; times <= 1000; times++) {
+            Subject x = some(kind, 9);
+            sealed[0] = x.seal(sealed[0], sealed[1], 1);
+            sealed[1] = x.other();
+            opened[0] = x.open(opened[0], opened[1], 1);
+            opened[1] = x.other();
+            if (times < 5 || times % 100 > 97 || times % 100 == 0) {
+                Expect.equal("seal " + times + " times", x.seal(5, 6, times), sealed[0]);
+                Expect.equal("other() of seal " + times + " times", x.other(), sealed[1]);
+                Expect.equal("open " + times + " times", x.open(5, 6, times), opened[0]);
+                Expect.equal("other() of open " + times + " times", x.other(), opened[1]);
+            }
         }
-        Expect.equal("seal a thousand times", x.seal(5, 6, 1000), first);
-        Expect.equal("other() of it", x.other(), second);
-        Expect.equal("open a thousand times", x.open(first, second, 1000), 5);
+        Subject x = some(kind, 9);
+        Expect.equal("open of seal, a thousand times", x.open(sealed[0], sealed[1], 1000), 5);
         Expect.equal("other() of it", x.other(), kind == 2 ? 6 : 0);
-        Expect.equal("seal no time", x.seal(-9, -8, 0), -9);
-        Expect.equal("other() of it", x.other(), kind == 2 ? -8 : 0);
-        Expect.equal("open no time", x.open(-7, -6, 0), -7);
-        Expect.equal("other() of it", x.other(), kind == 2 ? -6 : 0);
     }
 
-    private static void wrongTimes(int kind) {
-        RotationCiphers x = some(kind, 9);
+    private static Subject used(int kind) {
+        Subject x = some(kind, 9);
+        x.start(3, 4);
         x.seal(1, 2, 3);
-        for (int times : new int[] {-1, 1001, Integer.MIN_VALUE, Integer.MAX_VALUE}) {
-            State.keptBy("seal " + times, IllegalArgumentException.class, x, () -> x.seal(7, 8, times));
-            State.keptBy("open " + times, IllegalArgumentException.class, x, () -> x.open(7, 8, times));
+        return Bytes.fed(x, Bytes.some(21));
+    }
+
+    private static void refusesTimes(int kind) {
+        for (int times : new int[] {-1, 1001, -1000, 1002, 65536, Integer.MIN_VALUE, Integer.MAX_VALUE}) {
+            Expect.sentence("Promise 7", "IllegalArgumentException: times is not 0 to 1000.");
+            State.keptBy("seal " + times, IllegalArgumentException.class, () -> used(kind), x -> x.seal(7, 8, times));
+            Expect.sentence("Promise 8", "IllegalArgumentException: times is not 0 to 1000.");
+            State.keptBy("open " + times, IllegalArgumentException.class, () -> used(kind), x -> x.open(7, 8, times));
         }
     }
 
-    /** Each word as subkey 0, so that each has an inverse that fits: 0, as 65536, too. */
-    private static void everyProduct() {
-        RotationCiphers x = new RotationCiphers();
-        int lost = 0;
-        for (int word = 0; word < 65536; word++) {
-            x.feed(2, word);
-            x.feed(8, 0x0807060504030201L);
-            x.feed(6, 0x0E0D0C0B0A09L);
-            x.key(0, 8);
-            lost += x.open(x.seal(word, 0, 1), 0, 1) == word ? 0 : 1;
+    private static void otherBefore(int kind) {
+        Expect.sentence("Promise 9", "0 before");
+        Expect.equal("other() of a new object", new Subject().other(), 0);
+        Subject x = some(kind, 9);
+        Expect.equal("other() behind key()", x.other(), 0);
+        x.start(1, 2);
+        Bytes.fed(x, Bytes.some(32));
+        for (int mode = 0; mode <= 3; mode++) {
+            x.mode(mode, true);
+            x.mode(mode, false);
         }
-        Expect.equal("blocks lost with some subkey 0", lost, 0);
+        x.check();
+        Expect.equal("other() behind modes and check()", x.other(), 0);
+        Expect.throwing("seal", IllegalArgumentException.class, () -> x.seal(1, 2, -1));
+        Expect.throwing("open", IllegalArgumentException.class, () -> x.open(1, 2, 1001));
+        Expect.equal("other() behind calls that throw", x.other(), 0);
+    }
+
+    /** The most that 512 calls can ask for: 255 times a thousand there, as many back, and the last one. */
+    private static void dearestRun() {
+        Expect.sentence("What it is", "An object is used for at most 512 calls after it has been made");
+        Subject x = new Subject();
+        x.key(1, 32);
+        long block = 1;
+        for (int i = 0; i < 255; i++) {
+            block = x.seal(block, 0, 1000);
+        }
+        Expect.isTrue("the block is another one on the way", block != 1);
+        for (int i = 0; i < 255; i++) {
+            block = x.open(block, 0, 1000);
+        }
+        Expect.equal("the 511th call", block, 1);
+        Expect.equal("the 512th call", x.kind(), 1 + 4 * 32);
     }
 
     private static void othersOfShortBlocks() {
-        RotationCiphers x = some(0, 8);
-        Expect.equal("the second long does not count", x.seal(5, 99, 2), x.seal(5, 0, 2));
-        Expect.equal("other() with kind 0", x.other(), 0);
-        x.open(5, 99, 2);
-        Expect.equal("other() with kind 0", x.other(), 0);
-        x.key(1, 4);
-        Expect.equal("the second long does not count", x.open(5, 99, 2), x.open(5, 0, 2));
-        Expect.equal("other() with kind 1", x.other(), 0);
-        x.seal(5, 99, 0);
-        Expect.equal("other() with kind 1", x.other(), 0);
+        Expect.sentence("Promise 9", "and with blocks of 8 bytes");
+        for (int kind = 0; kind <= 1; kind++) {
+            Subject x = some(kind, 4);
+            for (int times : new int[] {0, 1, 2, 1000}) {
+                Expect.equal("seal without the second long", x.seal(5, 99, times), x.seal(5, 0, times));
+                x.seal(5, 99, times);
+                Expect.equal("other() of seal with kind " + kind, x.other(), 0);
+                Expect.equal("open without the second long", x.open(5, 99, times), x.open(5, 0, times));
+                x.open(5, 99, times);
+                Expect.equal("other() of open with kind " + kind, x.other(), 0);
+            }
+        }
     }
 
     private static void othersOfWideBlocks() {
-        RotationCiphers x = some(2, 20);
-        Expect.equal("other() before", x.other(), 0);
+        Expect.sentence("Promise 9", "The second long of what the last seal() or open() answered");
+        Subject x = some(2, 20);
         x.seal(1, 2, 1);
         long second = x.other();
-        Expect.isTrue("other() is the second long", second != 0);
+        Expect.isTrue("other() is not 0 here", second != 0);
         Expect.equal("other() again", x.other(), second);
+        Expect.throwing("seal", IllegalArgumentException.class, () -> x.seal(5, 6, 1001));
+        Expect.throwing("open", IllegalArgumentException.class, () -> x.open(5, 6, -1));
+        Expect.equal("other() behind calls that throw", x.other(), second);
         x.start(3, 4);
         x.feed(8, 5);
         x.mode(2, true);
         x.mode(3, false);
         x.check();
         x.wipe();
-        Expect.equal("other() behind modes", x.other(), second);
+        x.tape(0);
+        x.subkey(0);
+        x.kind();
+        Expect.equal("other() behind other calls", x.other(), second);
         x.key(1, 3);
         Expect.equal("other() behind key()", x.other(), second);
         x.seal(1, 2, 1);

@@ -11,6 +11,23 @@ final class Bytes {
         return row;
     }
 
+    static String text(byte[] row) {
+        StringBuilder text = new StringBuilder();
+        for (byte b : row) {
+            text.append(String.format("%02x", b & 0xFF));
+        }
+        return text.toString();
+    }
+
+    /** A row without a plain pattern: no two of its blocks are alike. */
+    static byte[] some(int length) {
+        byte[] row = new byte[length];
+        for (int i = 0; i < length; i++) {
+            row[i] = (byte) (i * 89 + i / 8 * 7 + length + 1);
+        }
+        return row;
+    }
+
     /** The long whose lowest byte is the first of eight (or fewer: the others are 0). */
     static long first(String hex) {
         return longAt(of(hex), 0);
@@ -29,29 +46,38 @@ final class Bytes {
         return sum;
     }
 
-    static void feed(RotationCiphers x, String hex) {
-        for (byte b : of(hex)) {
-            x.feed(1, b);
+    static <F extends Face> F fed(F x, byte[] row) {
+        for (int at = 0; at < row.length; at += 8) {
+            x.feed(Math.min(8, row.length - at), longAt(row, at));
         }
+        return x;
     }
 
-    static RotationCiphers keyed(int kind, int rounds, String hex) {
-        RotationCiphers x = new RotationCiphers();
-        Bytes.feed(x, hex);
+    static <F extends Face> F fed(F x, String hex) {
+        return fed(x, of(hex));
+    }
+
+    static Subject keyed(int kind, int rounds, byte[] key) {
+        Subject x = fed(new Subject(), key);
         x.key(kind, rounds);
         return x;
     }
 
-    /** The first n bytes of the tape in hex. */
-    static String tape(RotationCiphers x, int n) {
+    static Subject keyed(int kind, int rounds, String hex) {
+        return keyed(kind, rounds, of(hex));
+    }
+
+    /** Some n bytes of the tape in hex. */
+    static String tape(Face x, int n) {
         StringBuilder text = new StringBuilder();
-        for (int i = 0; i < n; i++) {
-            text.append(String.format("%02x", x.tape(i) & 0xFF));
+        for (int i = 0; i < n; i += 8) {
+            text.append(hex(x.tape(i)));
         }
+        text.setLength(2 * n);
         return text.toString();
     }
 
-    static String hex(long first) {
-        return String.format("%016x", Long.reverseBytes(first));
+    static String hex(long eight) {
+        return String.format("%016x", Long.reverseBytes(eight));
     }
 }

@@ -7,7 +7,7 @@ import java.util.List;
  * The document once more, slowly and by other means than the class: lists of bytes, big numbers,
  * kind 0 opened by subkeys turned round, the other kinds by undoing noted steps.
  */
-final class DocumentModel {
+final class DocumentModel implements Face {
     private static final BigInteger WORD = BigInteger.ONE.shiftLeft(32);
 
     private List<Integer> tape = new ArrayList<>();
@@ -17,7 +17,8 @@ final class DocumentModel {
     private BigInteger start = BigInteger.ZERO;
     private long other = 0;
 
-    int feed(int n, long bytes) {
+    @Override
+    public int feed(int n, long bytes) {
         need(n >= 1 && n <= 8);
         if (tape.size() + n > 256) {
             return -1;
@@ -28,17 +29,20 @@ final class DocumentModel {
         return tape.size();
     }
 
-    int wipe() {
+    @Override
+    public int wipe() {
         int had = tape.size();
         tape = new ArrayList<>();
         return had;
     }
 
-    long tape(int i) {
+    @Override
+    public long tape(int i) {
         return onTape(i, 8).longValue();
     }
 
-    int key(int newKind, int newRounds) {
+    @Override
+    public int key(int newKind, int newRounds) {
         need(newKind >= 0 && newKind <= 2);
         need(newKind == 0 ? newRounds == 8 : newRounds >= 0 && newRounds <= 32);
         if (newKind == 0 ? tape.size() != 16 : tape.size() > 64) {
@@ -55,18 +59,21 @@ final class DocumentModel {
         return subkeys.size();
     }
 
-    long subkey(int i) {
+    @Override
+    public long subkey(int i) {
         if (i < 0 || i >= subkeys.size()) {
             throw new IndexOutOfBoundsException();
         }
         return subkeys.get(i);
     }
 
-    long seal(long first, long second, int times) {
+    @Override
+    public long seal(long first, long second, int times) {
         return many(first, second, times, true);
     }
 
-    long open(long first, long second, int times) {
+    @Override
+    public long open(long first, long second, int times) {
         return many(first, second, times, false);
     }
 
@@ -80,15 +87,18 @@ final class DocumentModel {
         return block.longValue();
     }
 
-    long other() {
+    @Override
+    public long other() {
         return other;
     }
 
-    void start(long first, long second) {
+    @Override
+    public void start(long first, long second) {
         start = ofLongs(first, second);
     }
 
-    int mode(int mode, boolean seals) {
+    @Override
+    public int mode(int mode, boolean seals) {
         need(mode >= 0 && mode <= 3);
         if (mode <= 1 && tape.size() % size() != 0) {
             throw new IllegalStateException();
@@ -100,12 +110,14 @@ final class DocumentModel {
         return made.size();
     }
 
-    long check() {
+    @Override
+    public long check() {
         List<BigInteger> made = blocksMade(1, true);
         return made.isEmpty() ? start.longValue() : made.get(made.size() - 1).longValue();
     }
 
-    int kind() {
+    @Override
+    public int kind() {
         return kind + 4 * rounds;
     }
 

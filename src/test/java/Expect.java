@@ -1,24 +1,31 @@
-/** Counts and prints the answers that are not as due; the last line of each test's main is finish(). */
+/**
+ * Counts and prints the answers that are not as due, each with the document's sentence that it breaks;
+ * the last line of each test's main is finish().
+ */
 final class Expect {
     private static int wrong = 0;
     private static int seen = 0;
+    private static String sentence = "";
 
     private Expect() {
+    }
+
+    /** What follows is a test of these words of the document. */
+    static void sentence(String where, String words) {
+        sentence = where + ": \"" + words + "\": ";
     }
 
     static void equal(String what, long got, long want) {
         seen++;
         if (got != want) {
-            wrong++;
-            System.out.println(what + " answered " + got + ", due is " + want);
+            complain(what + " answered " + got + ", due is " + want);
         }
     }
 
     static void equal(String what, String got, String want) {
         seen++;
         if (!got.equals(want)) {
-            wrong++;
-            System.out.println(what + " is " + got + ", due is " + want);
+            complain(what + " is " + got + ", due is " + want);
         }
     }
 
@@ -42,5 +49,10 @@ final class Expect {
         if (wrong != 0) {
             System.exit(1);
         }
+    }
+
+    private static void complain(String what) {
+        wrong++;
+        System.out.println(sentence + what);
     }
 }

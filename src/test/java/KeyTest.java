@@ -1,176 +1,183 @@
-import java.math.BigInteger;
-
-/** Promises 5, 6 and 13: key, subkey, kind. */
+/** Promises 5, 6 and 13, sentence by sentence: key, subkey, kind. How subkeys are made: SubkeysTest. */
 public final class KeyTest {
     private static final String KEY_0 = "fedcba98765432100123456789abcdef";
+    private static final Class<IllegalArgumentException> ARGUMENT = IllegalArgumentException.class;
+    private static final Class<IllegalStateException> STATE = IllegalStateException.class;
 
     public static void main(String[] args) {
-        kindZeroSubkeys();
-        counts();
-        emptyAndZeroKeys();
-        keyTakesTheTape();
-        wrongKinds();
-        wrongRounds();
-        wrongTapes();
-        argumentsComeFirst();
-        wrongSubkeys();
-        otherThingsStay();
+        takesKindAndRounds();
+        takesTheTape();
+        leavesOtherThings();
+        refusesKinds();
+        refusesRounds();
+        refusesTapesOfKindZero();
+        refusesLongTapes();
+        refusesArgumentsFirst();
+        tellsWordsWithoutSign();
+        refusesSubkeys();
         Expect.finish();
     }
 
-    /** Against the key as one number of 128 bits, turned by 25 for each row of eight. */
-    private static void kindZeroSubkeys() {
-        RotationCiphers x = new RotationCiphers();
-        Bytes.feed(x, KEY_0);
-        Expect.equal("key(0, 8)", x.key(0, 8), 52);
-        BigInteger number = new BigInteger(KEY_0, 16);
-        BigInteger mask = BigInteger.ONE.shiftLeft(128).subtract(BigInteger.ONE);
-        for (int i = 0; i < 52; i++) {
-            int by = 25 * (i / 8) % 128;
-            BigInteger turned = number.shiftLeft(by).or(number.shiftRight(128 - by)).and(mask);
-            long want = turned.shiftRight(112 - 16 * (i % 8)).longValue() & 0xFFFF;
-            Expect.equal("subkey(" + i + ") of kind 0", x.subkey(i), want);
-        }
+    /** An object with all its parts in use, and a row on the tape. */
+    private static Subject used(int length) {
+        Subject x = Bytes.keyed(2, 5, "0102");
+        x.seal(1, 2, 1);
+        x.start(11, 22);
+        return Bytes.fed(x, Bytes.some(length));
     }
 
-    private static void counts() {
-        RotationCiphers x = new RotationCiphers();
-        for (int rounds = 0; rounds <= 32; rounds++) {
-            int r = rounds;
-            for (int kind = 1; kind <= 2; kind++) {
-                int count = 2 * rounds + 2 * kind;
-                x.feed(5, rounds);
-                Expect.equal("key(" + kind + ", " + rounds + ")", x.key(kind, rounds), count);
-                Expect.equal("kind()", x.kind(), kind + 4 * rounds);
-                Expect.isTrue("the last subkey has 32 bits", x.subkey(count - 1) >>> 32 == 0);
-                Expect.throwing("subkey(" + count + ") with " + r + " rounds",
-                        IndexOutOfBoundsException.class, () -> x.subkey(count));
-            }
-        }
-        Bytes.feed(x, KEY_0);
-        Expect.equal("key(0, 8)", x.key(0, 8), 52);
-        Expect.equal("kind()", x.kind(), 32);
-    }
-
-    /** No key, one byte 0 and four bytes 0 are one word 0; eight bytes 0 are two. */
-    private static void emptyAndZeroKeys() {
+    private static void takesKindAndRounds() {
         for (int kind = 1; kind <= 2; kind++) {
-            RotationCiphers none = Bytes.keyed(kind, 12, "");
-            String[] same = {"00", "0000", "00000000"};
-            for (String hex : same) {
-                Expect.equal("a key " + hex, State.of(Bytes.keyed(kind, 12, hex)), State.of(none));
+            for (int rounds = 0; rounds <= 32; rounds++) {
+                Subject x = used(16);
+                Expect.sentence("Promise 5", "Answers how many subkeys there are.");
+                Expect.equal("key(" + kind + ", " + rounds + ")", x.key(kind, rounds), 2 * rounds + 2 * kind);
+                Expect.sentence("Promise 13", "The kind, and 4 times the rounds.");
+                Expect.equal("kind() behind key(" + kind + ", " + rounds + ")", x.kind(), kind + 4 * rounds);
             }
-            Expect.isTrue("two words are not one",
-                    Bytes.keyed(kind, 12, "0000000000").subkey(0) != none.subkey(0));
         }
-        // Bytes that an earlier, longer key left behind must not come into a shorter one.
-        RotationCiphers x = Bytes.keyed(1, 12, "ffffffffffffffffffffffff");
-        long sealed = Bytes.keyed(1, 12, "").seal(0, 0, 1);
-        x.feed(1, 0);
-        x.key(1, 12);
-        Expect.equal("a short key behind a long one", x.seal(0, 0, 1), sealed);
-        x.key(1, 12);
-        Expect.equal("an empty key behind a short one", x.seal(0, 0, 1), sealed);
-        // One round of kind 1 has 4 subkeys, and 16 words of key are more.
-        Expect.equal("subkeys with more words than subkeys", longKeySubkeys(),
-                DocumentModel.subkeysOf(1, 1, longKey()).toString());
+        Subject x = used(16);
+        Expect.sentence("Promise 5", "Answers how many subkeys there are.");
+        Expect.equal("key(0, 8)", x.key(0, 8), 52);
+        Expect.sentence("Promise 13", "The kind, and 4 times the rounds.");
+        Expect.equal("kind() behind key(0, 8)", x.kind(), 32);
+        Expect.equal("kind() of a new object", new Subject().kind(), 32);
     }
 
-    private static byte[] longKey() {
-        byte[] key = new byte[64];
-        for (int i = 0; i < 64; i++) {
-            key[i] = (byte) (i * 37 + 200);
-        }
-        return key;
-    }
-
-    private static String longKeySubkeys() {
-        RotationCiphers x = new RotationCiphers();
-        for (byte b : longKey()) {
-            x.feed(1, b);
-        }
-        x.key(1, 1);
-        return java.util.List.of(x.subkey(0), x.subkey(1), x.subkey(2), x.subkey(3)).toString();
-    }
-
-    private static void keyTakesTheTape() {
-        RotationCiphers x = new RotationCiphers();
-        Bytes.feed(x, KEY_0);
-        x.key(0, 8);
-        Expect.equal("the tape behind key()", x.tape(0), 0);
-        Expect.equal("wipe() behind key()", x.wipe(), 0);
-        for (int i = 0; i < 8; i++) {
-            x.feed(8, -1);
-        }
-        Expect.equal("key() with 64 bytes", x.key(2, 20), 44);
-        Expect.equal("wipe() behind key() with 64 bytes", x.wipe(), 0);
-    }
-
-    private static void wrongKinds() {
-        RotationCiphers x = Bytes.keyed(2, 5, "0102");
-        Bytes.feed(x, KEY_0);
-        for (int kind : new int[] {-1, 3, 4, Integer.MIN_VALUE, Integer.MAX_VALUE}) {
-            State.keptBy("key(" + kind + ", 8)", IllegalArgumentException.class, x, () -> x.key(kind, 8));
-        }
-    }
-
-    private static void wrongRounds() {
-        RotationCiphers x = Bytes.keyed(1, 5, "0102");
-        Bytes.feed(x, KEY_0);
-        for (int rounds : new int[] {0, 7, 9, -8, 32, Integer.MIN_VALUE, Integer.MAX_VALUE}) {
-            State.keptBy("key(0, " + rounds + ")", IllegalArgumentException.class, x, () -> x.key(0, rounds));
-        }
-        for (int rounds : new int[] {-1, 33, Integer.MIN_VALUE, Integer.MAX_VALUE}) {
-            State.keptBy("key(1, " + rounds + ")", IllegalArgumentException.class, x, () -> x.key(1, rounds));
-            State.keptBy("key(2, " + rounds + ")", IllegalArgumentException.class, x, () -> x.key(2, rounds));
-        }
-    }
-
-    private static void wrongTapes() {
-        RotationCiphers x = Bytes.keyed(1, 7, "0102");
-        for (int length = 0; length <= 70; length++) {
-            int n = length;
-            if (length != 16) {
-                State.keptBy("key(0, 8) with " + n + " bytes", IllegalStateException.class, x, () -> x.key(0, 8));
+    private static void takesTheTape() {
+        Expect.sentence("Promise 5", "the tape as its key (it is empty then)");
+        for (int kind = 0; kind <= 2; kind++) {
+            for (int length : new int[] {0, 1, 16, 63, 64}) {
+                if (kind == 0 && length != 16) {
+                    continue;
+                }
+                Subject x = used(length);
+                x.key(kind, 8);
+                Expect.equal("tape(0) behind key()", x.tape(0), 0);
+                Expect.equal("wipe() behind key()", x.wipe(), 0);
+                Expect.equal("feed() behind key()", x.feed(1, 3), 1);
+                Expect.equal("subkey(0)", x.subkey(0),
+                        DocumentModel.subkeysOf(kind, 8, Bytes.some(length)).get(0));
             }
-            if (length > 64) {
-                State.keptBy("key(1, 3) with " + n + " bytes", IllegalStateException.class, x, () -> x.key(1, 3));
-                State.keptBy("key(2, 3) with " + n + " bytes", IllegalStateException.class, x, () -> x.key(2, 3));
-            }
-            x.feed(1, length);
         }
-    }
-
-    private static void argumentsComeFirst() {
-        RotationCiphers x = new RotationCiphers();
-        for (int i = 0; i < 9; i++) {
-            x.feed(8, i);
-        }
-        State.keptBy("key(3, 8) with a long tape", IllegalArgumentException.class, x, () -> x.key(3, 8));
-        State.keptBy("key(0, 7) with a long tape", IllegalArgumentException.class, x, () -> x.key(0, 7));
-        State.keptBy("key(1, 33) with a long tape", IllegalArgumentException.class, x, () -> x.key(1, 33));
-        State.keptBy("key(2, -1) with a long tape", IllegalArgumentException.class, x, () -> x.key(2, -1));
-    }
-
-    private static void wrongSubkeys() {
-        RotationCiphers x = Bytes.keyed(2, 32, KEY_0);
-        for (int i : new int[] {-1, 68, Integer.MIN_VALUE, Integer.MAX_VALUE}) {
-            State.keptBy("subkey(" + i + ")", IndexOutOfBoundsException.class, x, () -> x.subkey(i));
-        }
-        // Subkeys of an earlier key with more rounds are gone.
-        x.key(2, 0);
-        State.keptBy("subkey(4)", IndexOutOfBoundsException.class, x, () -> x.subkey(4));
     }
 
     /** The start, and what other() tells, are not the key's. */
-    private static void otherThingsStay() {
-        RotationCiphers x = Bytes.keyed(2, 20, KEY_0);
-        x.seal(1, 2, 1);
+    private static void leavesOtherThings() {
+        Expect.sentence("Promise 5", "The kind, with so many rounds, and the tape as its key");
+        Subject x = used(1);
         long second = x.other();
-        x.start(11, 22);
-        x.feed(1, 5);
+        Expect.isTrue("other() is not 0 here", second != 0);
         x.key(1, 12);
         Expect.equal("other() behind key()", x.other(), second);
         Expect.equal("check() behind key()", x.check(), 11);
+    }
+
+    private static void refusesKinds() {
+        Expect.sentence("Promise 5", "IllegalArgumentException: kind is not 0 to 2");
+        for (int kind : new int[] {-1, 3, 4, -2, 256, Integer.MIN_VALUE, Integer.MAX_VALUE}) {
+            State.keptBy("key(" + kind + ", 8)", ARGUMENT, () -> used(16), x -> x.key(kind, 8));
+        }
+        for (int kind = 0; kind <= 2; kind++) {
+            Expect.equal("key(" + kind + ", 8)", used(16).key(kind, 8), kind == 0 ? 52 : 16 + 2 * kind);
+        }
+    }
+
+    private static void refusesRounds() {
+        Expect.sentence("Promise 5", "or rounds not 8, with 0");
+        for (int rounds : new int[] {7, 9, 0, -8, 32, 33, -1, Integer.MIN_VALUE, Integer.MAX_VALUE}) {
+            State.keptBy("key(0, " + rounds + ")", ARGUMENT, () -> used(16), x -> x.key(0, rounds));
+        }
+        Expect.sentence("Promise 5", "or not 0 to 32, with the others.");
+        for (int kind = 1; kind <= 2; kind++) {
+            int k = kind;
+            for (int rounds : new int[] {-1, 33, 34, -32, 256, Integer.MIN_VALUE, Integer.MAX_VALUE}) {
+                State.keptBy("key(" + k + ", " + rounds + ")", ARGUMENT, () -> used(16), x -> x.key(k, rounds));
+            }
+            Expect.equal("key(" + k + ", 0)", used(16).key(k, 0), 2 * k);
+            Expect.equal("key(" + k + ", 32)", used(16).key(k, 32), 64 + 2 * k);
+        }
+    }
+
+    private static void refusesTapesOfKindZero() {
+        Expect.sentence("Promise 5", "IllegalStateException: the tape hasn't 16 bytes, with 0");
+        for (int length : new int[] {0, 1, 8, 15, 17, 24, 32, 64, 65, 255, 256}) {
+            State.keptBy("key(0, 8) with " + length + " bytes", STATE, () -> used(length), x -> x.key(0, 8));
+        }
+        Expect.equal("key(0, 8) with 16 bytes", used(16).key(0, 8), 52);
+    }
+
+    private static void refusesLongTapes() {
+        Expect.sentence("Promise 5", "or more than 64.");
+        for (int kind = 1; kind <= 2; kind++) {
+            int k = kind;
+            for (int length : new int[] {65, 66, 68, 72, 128, 255, 256}) {
+                State.keptBy("key(" + k + ", 3) with " + length + " bytes", STATE,
+                        () -> used(length), x -> x.key(k, 3));
+            }
+            for (int length = 0; length <= 64; length++) {
+                Expect.equal("key(" + k + ", 3) with " + length + " bytes", used(length).key(k, 3), 6 + 2 * k);
+            }
+        }
+    }
+
+    private static void refusesArgumentsFirst() {
+        Expect.sentence("Terms", "Methods throw what their comments name, the one named first when several would do");
+        for (int length : new int[] {0, 15, 17, 65, 256}) {
+            for (int[] wrong : new int[][] {{-1, 8}, {3, 8}, {3, 33}, {0, 7}, {0, 9}}) {
+                State.keptBy("key(" + wrong[0] + ", " + wrong[1] + ") with " + length + " bytes", ARGUMENT,
+                        () -> used(length), x -> x.key(wrong[0], wrong[1]));
+            }
+        }
+        for (int[] wrong : new int[][] {{1, -1}, {1, 33}, {2, -1}, {2, 33}}) {
+            State.keptBy("key(" + wrong[0] + ", " + wrong[1] + ") with 65 bytes", ARGUMENT,
+                    () -> used(65), x -> x.key(wrong[0], wrong[1]));
+        }
+    }
+
+    private static void tellsWordsWithoutSign() {
+        Expect.sentence("Promise 6", "Subkey i (as a word without sign).");
+        Subject x = Bytes.keyed(0, 8, "ffffffffffffffffffffffffffffffff");
+        for (int i = 0; i < 52; i++) {
+            Expect.equal("subkey(" + i + ") of kind 0", x.subkey(i), 65535);
+        }
+        for (int kind = 1; kind <= 2; kind++) {
+            Subject y = Bytes.keyed(kind, 32, KEY_0);
+            int high = 0;
+            for (int i = 0; i < 64 + 2 * kind; i++) {
+                long word = y.subkey(i);
+                Expect.equal("the sign of subkey(" + i + ")", word >>> 32, 0);
+                Expect.equal("subkey(" + i + ")", word, DocumentModel.subkeysOf(kind, 32, Bytes.of(KEY_0)).get(i));
+                high += word > Integer.MAX_VALUE ? 1 : 0;
+            }
+            Expect.isTrue("some words would have a sign", high > 0);
+        }
+    }
+
+    private static void refusesSubkeys() {
+        Expect.sentence("Promise 6", "IndexOutOfBoundsException: there is none.");
+        subkeysEndAt(52, 0, 8);
+        for (int rounds : new int[] {0, 1, 12, 31, 32}) {
+            subkeysEndAt(2 * rounds + 2, 1, rounds);
+            subkeysEndAt(2 * rounds + 4, 2, rounds);
+        }
+        State.keptBy("subkey(52) of a new object", IndexOutOfBoundsException.class, Subject::new, x -> x.subkey(52));
+        // The subkeys of an earlier key with more rounds are gone; those of a refused key never come.
+        Subject x = Bytes.keyed(2, 32, KEY_0);
+        x.key(2, 0);
+        Expect.throwing("subkey(4) behind a key with fewer rounds", IndexOutOfBoundsException.class, () -> x.subkey(4));
+        Expect.throwing("key(2, 33)", ARGUMENT, () -> x.key(2, 33));
+        Expect.throwing("subkey(4) behind a refused key", IndexOutOfBoundsException.class, () -> x.subkey(4));
+    }
+
+    private static void subkeysEndAt(int count, int kind, int rounds) {
+        String with = " with kind " + kind + " and " + rounds + " rounds";
+        Subject x = Bytes.keyed(kind, rounds, KEY_0);
+        Expect.isTrue("subkey(0)" + with, x.subkey(0) >= 0);
+        Expect.isTrue("the last subkey" + with, x.subkey(count - 1) >= 0);
+        for (int i : new int[] {-1, count, count + 1, -count, 256, Integer.MIN_VALUE, Integer.MAX_VALUE}) {
+            State.keptBy("subkey(" + i + ")" + with, IndexOutOfBoundsException.class,
+                    () -> Bytes.keyed(kind, rounds, KEY_0), y -> y.subkey(i));
+        }
     }
 }

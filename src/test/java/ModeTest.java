@@ -1,73 +1,85 @@
-/** Promises 10, 11 and 12: start, mode, check; the modes are told here by seal() and open() alone. */
+import java.util.Arrays;
+
+/** Promises 10, 11 and 12, sentence by sentence: start, mode, check; the modes told here by seal() alone. */
 public final class ModeTest {
     private static final String KEY = "2bd6459f82c5b300952c49104881ff48";
+    private static final long FIRST = 0x0102030405060708L;
+    private static final long SECOND = 0x1112131415161718L;
+    private static final Class<IllegalArgumentException> ARGUMENT = IllegalArgumentException.class;
+    private static final Class<IllegalStateException> STATE = IllegalStateException.class;
 
     public static void main(String[] args) {
         for (int kind = 0; kind <= 2; kind++) {
-            for (int length = 0; length <= 64; length++) {
-                sealing(kind, length);
+            for (int length = 0; length <= 256; length++) {
+                thereAndBack(kind, length);
                 checks(kind, length);
-                wrongTapes(kind, length);
             }
-            sealing(kind, 256);
-            checks(kind, 256);
-            sealing(kind, 255);
-            wrongModes(kind);
-            firstLongOfStart(kind);
+            emptyTapes(kind);
+            shorterBlocks(kind);
+            refusesModes(kind);
+            refusesParts(kind);
+            counts(kind);
+            leavesTheStart(kind);
+            startsWithFirstLong(kind);
         }
-        counting();
         startOfAnotherKind();
         publishedChain();
         Expect.finish();
     }
 
-    private static RotationCiphers filled(int kind, int length) {
-        RotationCiphers x = Bytes.keyed(kind, kind == 0 ? 8 : 6 + kind, KEY);
-        x.start(0x0102030405060708L, 0x1112131415161718L);
-        for (int i = 0; i < length; i++) {
-            x.feed(1, i * 89 + length);
-        }
-        return x;
+    private static int size(int kind) {
+        return kind == 2 ? 16 : 8;
     }
 
-    private static byte[] read(RotationCiphers x, int length) {
-        return Bytes.of(Bytes.tape(x, length));
+    private static int blocks(int kind, int length) {
+        return length / size(kind) + (length % size(kind) == 0 ? 0 : 1);
     }
 
-    private static void sealing(int kind, int length) {
-        int size = kind == 2 ? 16 : 8;
-        int blocks = (length + size - 1) / size;
+    private static Subject keyed(int kind) {
+        return Bytes.keyed(kind, kind == 0 ? 8 : 6 + kind, KEY);
+    }
+
+    private static Subject filled(int kind, int length) {
+        Subject x = keyed(kind);
+        x.start(FIRST, SECOND);
+        return Bytes.fed(x, Bytes.some(length));
+    }
+
+    private static void thereAndBack(int kind, int length) {
+        String plain = Bytes.text(Bytes.some(length));
         for (int mode = 0; mode <= 3; mode++) {
-            if (mode <= 1 && length % size != 0) {
+            if (mode <= 1 && length % size(kind) != 0) {
                 continue;
             }
             String name = "mode " + mode + " of kind " + kind + " with " + length + " bytes";
-            RotationCiphers x = filled(kind, length);
-            byte[] plain = read(x, length);
-            Expect.equal(name, x.mode(mode, true), blocks);
-            byte[] sealed = read(x, length);
-            Expect.equal(name, text(sealed), text(byHand(kind, mode, plain)));
+            Subject x = filled(kind, length);
+            Expect.sentence("Promise 11", "Answers how many blocks it has, a shorter one, too.");
+            Expect.equal(name, x.mode(mode, true), blocks(kind, length));
+            Expect.sentence("Promise 11", "The tape becomes what a mode makes of it, sealed or opened.");
+            Expect.equal(name, Bytes.tape(x, length), Bytes.text(byHand(kind, mode, Bytes.some(length))));
             Expect.equal(name + ", behind the end", x.tape(length), 0);
-            Expect.equal(name + ", there and back", x.mode(mode, false), blocks);
-            Expect.equal(name + ", there and back", text(read(x, length)), text(plain));
-            Expect.equal(name + ", opened first", x.mode(mode, false), blocks);
-            Expect.equal(name + ", back and there", x.mode(mode, true), blocks);
-            Expect.equal(name + ", back and there", text(read(x, length)), text(plain));
+            Expect.equal(name + ", there and back", x.mode(mode, false), blocks(kind, length));
+            Expect.equal(name + ", there and back", Bytes.tape(x, length), plain);
             Expect.equal(name + ", how many bytes", x.wipe(), length);
+            Subject y = filled(kind, length);
+            Expect.equal(name + ", opened first", y.mode(mode, false), blocks(kind, length));
+            Expect.equal(name + ", back and there", y.mode(mode, true), blocks(kind, length));
+            Expect.equal(name + ", back and there", Bytes.tape(y, length), plain);
         }
-    }
-
-    private static String text(byte[] row) {
-        return java.util.Arrays.toString(row);
+        Expect.sentence("Terms", "there and back are the same");
+        Subject sealed = filled(kind, length);
+        sealed.mode(2, true);
+        Subject opened = filled(kind, length);
+        opened.mode(2, false);
+        Expect.equal("mode 2 with " + length + " bytes", Bytes.tape(opened, length), Bytes.tape(sealed, length));
     }
 
     private static byte[] byHand(int kind, int mode, byte[] plain) {
-        RotationCiphers x = filled(kind, 0);
-        int size = kind == 2 ? 16 : 8;
-        long first = 0x0102030405060708L;
-        long second = 0x1112131415161718L;
+        Subject x = keyed(kind);
+        long first = FIRST;
+        long second = SECOND;
         byte[] made = new byte[plain.length];
-        for (int at = 0; at < plain.length; at += size) {
+        for (int at = 0; at < plain.length; at += size(kind)) {
             long p = Bytes.longAt(plain, at);
             long q = Bytes.longAt(plain, at + 8);
             long s = 0;
@@ -79,7 +91,7 @@ public final class ModeTest {
                 s = p ^ x.seal(first, second, 1);
                 t = q ^ x.other();
             }
-            write(made, at, size, s, t);
+            write(made, at, size(kind), s, t);
             first = mode == 2 ? first + 1 : s;
             second = mode == 2 ? second : t;
         }
@@ -93,84 +105,174 @@ public final class ModeTest {
     }
 
     private static void checks(int kind, int length) {
-        int size = kind == 2 ? 16 : 8;
-        RotationCiphers x = filled(kind, length);
-        String before = State.of(x);
-        byte[] whole = java.util.Arrays.copyOf(read(x, length), (length + size - 1) / size * size);
+        Expect.sentence("Promise 12", "sealing the tape with bytes 0 behind it up to whole blocks");
+        byte[] whole = Arrays.copyOf(Bytes.some(length), blocks(kind, length) * size(kind));
         byte[] sealed = byHand(kind, 1, whole);
-        long want = length == 0 ? 0x0102030405060708L : Bytes.longAt(sealed, sealed.length - size);
+        long want = length == 0 ? FIRST : Bytes.longAt(sealed, sealed.length - size(kind));
+        Subject x = filled(kind, length);
         Expect.equal("check() of kind " + kind + " with " + length + " bytes", x.check(), want);
         Expect.equal("check() again", x.check(), want);
-        Expect.equal("the state behind check()", State.of(x), before);
-        Expect.equal("wipe() behind check()", x.wipe(), length);
+        Expect.sentence("Promise 12", "The tape stays.");
+        Expect.equal("the state behind check()", State.of(x), State.of(filled(kind, length)));
+        if (length > 0 && length % size(kind) == 0) {
+            Expect.sentence("Promise 12", "The first long of the last block that mode 1 would make");
+            Subject y = filled(kind, length);
+            y.mode(1, true);
+            Expect.equal("the last block of mode 1", y.tape(length - size(kind)), want);
+        }
     }
 
-    private static void wrongTapes(int kind, int length) {
-        if (length % (kind == 2 ? 16 : 8) == 0) {
-            return;
-        }
-        RotationCiphers x = filled(kind, length);
-        for (int mode = 0; mode <= 1; mode++) {
+    private static void emptyTapes(int kind) {
+        for (int mode = 0; mode <= 3; mode++) {
             int m = mode;
-            State.keptBy("sealing mode " + m, IllegalStateException.class, x, () -> x.mode(m, true));
-            State.keptBy("opening mode " + m, IllegalStateException.class, x, () -> x.mode(m, false));
+            for (boolean seals : new boolean[] {true, false}) {
+                Expect.sentence("Promise 11", "with 0 and 1 the tape has no whole blocks (an empty one has: 0)");
+                Subject x = filled(kind, 0);
+                Expect.equal("mode " + m + " of an empty tape", x.mode(m, seals), 0);
+                Expect.equal("the state behind it", State.of(x), State.of(filled(kind, 0)));
+            }
+        }
+        Expect.sentence("Promise 12", "the start, when it is empty");
+        for (long first : new long[] {0, 1, -5, Long.MIN_VALUE, Long.MAX_VALUE}) {
+            Subject x = keyed(kind);
+            x.start(first, 6);
+            Expect.equal("check() of an empty tape", x.check(), first);
+            x.feed(8, 1);
+            x.wipe();
+            Expect.equal("check() of a wiped tape", x.check(), first);
         }
     }
 
-    private static void wrongModes(int kind) {
-        for (int length : new int[] {0, 5, 16}) {
-            RotationCiphers x = filled(kind, length);
-            for (int mode : new int[] {-1, 4, Integer.MIN_VALUE, Integer.MAX_VALUE}) {
-                State.keptBy("mode " + mode, IllegalArgumentException.class, x, () -> x.mode(mode, true));
-                State.keptBy("mode " + mode, IllegalArgumentException.class, x, () -> x.mode(mode, false));
+    /** A shorter last block gets the first bytes of what a whole one would, and grows by none. */
+    private static void shorterBlocks(int kind) {
+        int size = size(kind);
+        for (int mode = 2; mode <= 3; mode++) {
+            for (boolean seals : new boolean[] {true, false}) {
+                for (int length = size + 1; length < 2 * size; length++) {
+                    Expect.sentence("Terms", mode == 2 ? "(the last one may be shorter)" : "(the last may be shorter)");
+                    Subject whole = Bytes.fed(filled(kind, 0), Bytes.some(2 * size));
+                    Subject part = Bytes.fed(filled(kind, 0), Arrays.copyOf(Bytes.some(2 * size), length));
+                    whole.mode(mode, seals);
+                    Expect.equal("blocks of " + length, part.mode(mode, seals), 2);
+                    Expect.equal(length + " bytes", Bytes.tape(part, length), Bytes.tape(whole, length));
+                    Expect.equal("the next byte of " + length, part.feed(1, 0x5A), length + 1);
+                    Expect.equal("the next byte of " + length, part.tape(length), 0x5A);
+                }
             }
         }
     }
 
-    private static void firstLongOfStart(int kind) {
-        for (int mode = 1; mode <= 3; mode++) {
-            RotationCiphers x = filled(kind, 32);
-            RotationCiphers y = filled(kind, 32);
-            y.start(0x0102030405060708L, 7);
-            x.mode(mode, true);
-            y.mode(mode, true);
-            boolean same = Bytes.tape(x, 32).equals(Bytes.tape(y, 32));
-            Expect.isTrue("the start's second long counts with kind 2 alone", same == (kind != 2));
+    private static void refusesModes(int kind) {
+        for (int mode : new int[] {-1, 4, 5, -4, 256, Integer.MIN_VALUE, Integer.MAX_VALUE}) {
+            for (boolean seals : new boolean[] {true, false}) {
+                // With 5 and 9 bytes the state is wrong for modes 0 and 1 as well: the argument comes first.
+                for (int length : new int[] {0, 5, 9, 16, 255, 256}) {
+                    Expect.sentence("Promise 11", "IllegalArgumentException: mode is not 0 to 3.");
+                    State.keptBy("mode " + mode + " with " + length + " bytes", ARGUMENT,
+                            () -> filled(kind, length), x -> x.mode(mode, seals));
+                }
+            }
         }
-        RotationCiphers x = filled(kind, 0);
-        x.start(-5, 6);
-        Expect.equal("check() is the start of an empty tape", x.check(), -5);
     }
 
-    /** The count goes over from the first long into the second one, and round about at its end. */
-    private static void counting() {
-        for (int kind = 0; kind <= 2; kind++) {
-            for (long second : new long[] {0, 41, -1}) {
-                int size = kind == 2 ? 16 : 8;
-                RotationCiphers x = filled(kind, 0);
-                x.start(-2, second);
-                for (int i = 0; i < 4 * size / 8; i++) {
-                    x.feed(8, 0);
+    private static void refusesParts(int kind) {
+        Expect.sentence("Promise 11", "IllegalStateException: with 0 and 1 the tape has no whole blocks");
+        for (int length = 1; length <= 256; length++) {
+            if (length % size(kind) == 0 || length > 40 && length < 238) {
+                continue;
+            }
+            int n = length;
+            for (int mode = 0; mode <= 1; mode++) {
+                int m = mode;
+                for (boolean seals : new boolean[] {true, false}) {
+                    State.keptBy("mode " + m + " with " + n + " bytes", STATE,
+                            () -> filled(kind, n), x -> x.mode(m, seals));
                 }
+            }
+        }
+    }
+
+    /** Kind 2 carries from the first long into the second one; the others end at the first one. */
+    private static void counts(int kind) {
+        Expect.sentence("Terms", "one more for each block, modulo 2^64 or 2^128");
+        long[] firsts = {0, -1, -2, -3, 0xFFFFFFFFL, Long.MAX_VALUE, Long.MAX_VALUE - 1};
+        for (long first : firsts) {
+            for (long second : new long[] {0, 41, -1, Long.MAX_VALUE, 0xFFFFFFFFL}) {
+                Subject x = keyed(kind);
+                x.start(first, second);
+                Bytes.fed(x, new byte[4 * size(kind)]);
                 Expect.equal("counted blocks", x.mode(2, true), 4);
                 for (int i = 0; i < 4; i++) {
-                    long first = x.seal(i - 2, i < 2 ? second : second + 1, 1);
-                    Expect.equal("counted block " + i, x.tape(i * size), first);
+                    boolean over = first < 0 && first + i >= 0;
+                    long sealed = x.seal(first + i, over ? second + 1 : second, 1);
+                    String name = "block " + i + " counted from " + first + " " + second;
+                    Expect.equal(name, x.tape(i * size(kind)), sealed);
                     if (kind == 2) {
-                        Expect.equal("counted block " + i, x.tape(i * size + 8), x.other());
+                        Expect.equal(name, x.tape(i * size(kind) + 8), x.other());
                     }
                 }
             }
         }
     }
 
+    /** Neither counting nor chaining goes on from one call to the next: each begins with the start. */
+    private static void leavesTheStart(int kind) {
+        Expect.sentence("Promise 10", "The start becomes another block");
+        for (int mode = 0; mode <= 3; mode++) {
+            for (boolean seals : new boolean[] {true, false}) {
+                Subject x = keyed(kind);
+                x.start(-1, -1);
+                Bytes.fed(x, Bytes.some(64));
+                x.mode(mode, seals);
+                x.check();
+                x.wipe();
+                Subject y = keyed(kind);
+                y.start(-1, -1);
+                Expect.equal("the start behind mode " + mode, State.of(x), State.of(y));
+                y = filled(kind, 0);
+                y.start(-1, -1);
+                Expect.equal("the last start counts", State.of(y), State.of(twiceStarted(kind)));
+            }
+        }
+    }
+
+    private static Subject twiceStarted(int kind) {
+        Subject x = keyed(kind);
+        x.start(5, 6);
+        x.start(-1, -1);
+        return x;
+    }
+
+    private static void startsWithFirstLong(int kind) {
+        Expect.sentence("Promise 10", "(with 8 bytes the first long alone counts)");
+        for (int mode = 1; mode <= 3; mode++) {
+            for (boolean seals : new boolean[] {true, false}) {
+                Subject x = filled(kind, 32);
+                Subject y = filled(kind, 32);
+                y.start(FIRST, SECOND + 1);
+                Subject z = filled(kind, 32);
+                z.start(FIRST + 1, SECOND);
+                x.mode(mode, seals);
+                y.mode(mode, seals);
+                z.mode(mode, seals);
+                String made = Bytes.tape(x, 32);
+                Expect.isTrue("the second long with kind " + kind, made.equals(Bytes.tape(y, 32)) == (kind != 2));
+                Expect.isTrue("the first long with kind " + kind, !made.equals(Bytes.tape(z, 32)));
+            }
+        }
+        Subject x = filled(kind, 11);
+        Subject y = filled(kind, 11);
+        y.start(FIRST, SECOND + 1);
+        Expect.isTrue("check() with kind " + kind, (x.check() == y.check()) == (kind != 2));
+    }
+
     /** The start is a block of 16 bytes even if the kind has 8 when it is told. */
     private static void startOfAnotherKind() {
-        RotationCiphers x = new RotationCiphers();
+        Expect.sentence("Promise 10", "The start becomes another block");
+        Subject x = new Subject();
         x.start(1, 2);
         x.key(2, 4);
-        x.feed(8, 0);
-        x.feed(8, 0);
+        Bytes.fed(x, new byte[16]);
         x.mode(2, true);
         Expect.equal("the start behind key()", x.tape(0), x.seal(1, 2, 1));
         Expect.equal("the start behind key()", x.tape(8), x.other());
@@ -181,15 +283,16 @@ public final class ModeTest {
      * last row's numbers of rounds were set by what the class answered, the blocks were not.
      */
     private static void publishedChain() {
+        Expect.sentence("Terms", "1 each block, exclusive or the sealed one before it");
         published(8, "0000000000000000", "ffffffffffffffff", "7875dbf6738c6478");
         published(8, "7875dbf6738c6478", "0808080808080808", "8f34c3c681c99695");
         published(12, "0000000000000000", "ffffffffffffffff", "97e0787837ed317f");
     }
 
     private static void published(int rounds, String start, String plain, String sealed) {
-        RotationCiphers x = Bytes.keyed(1, rounds, "0102030405");
+        Subject x = Bytes.keyed(1, rounds, "0102030405");
         x.start(Bytes.first(start), 0);
-        Bytes.feed(x, plain);
+        Bytes.fed(x, plain);
         Expect.equal("check() of a published row", x.check(), Bytes.first(sealed));
         x.mode(1, true);
         Expect.equal("a published row", Bytes.tape(x, 8), sealed);

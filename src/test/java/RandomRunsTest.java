@@ -1,7 +1,6 @@
 /** Many runs of calls against DocumentModel, each the same whenever it runs: the numbers come from a formula. */
 public final class RandomRunsTest {
     private static final int RUNS = 1500;
-    private static final int CALLS = 512;
 
     private long seed;
 
@@ -17,10 +16,10 @@ public final class RandomRunsTest {
     }
 
     private void compare() {
-        RotationCiphers x = new RotationCiphers();
+        Subject x = new Subject();
         DocumentModel model = new DocumentModel();
         long name = seed;
-        for (int call = 0; call < CALLS; call++) {
+        for (int call = 0; call < Subject.MOST_CALLS; call++) {
             int what = upTo(16);
             long p = block();
             long q = block();
@@ -45,26 +44,7 @@ public final class RandomRunsTest {
         }
     }
 
-    private static long call(RotationCiphers x, int what, long p, long q, int small, int other, boolean yes) {
-        switch (what) {
-            case 0: return x.wipe();
-            case 1: return x.tape(other);
-            case 2: return x.key(small & 3, other);
-            case 3: return x.key(0, 8);
-            case 4: return x.key(1 + (small & 1), other & 31);
-            case 5: return x.subkey(other);
-            case 6: return x.seal(p, q, small);
-            case 7: return x.open(p, q, small);
-            case 8: return x.other();
-            case 9: x.start(p, q); return 0;
-            case 10: return x.mode(small, yes);
-            case 11: return x.check();
-            case 12: return x.kind();
-            default: return x.feed(yes ? 8 : small, p);
-        }
-    }
-
-    private static long call(DocumentModel x, int what, long p, long q, int small, int other, boolean yes) {
+    private static long call(Face x, int what, long p, long q, int small, int other, boolean yes) {
         switch (what) {
             case 0: return x.wipe();
             case 1: return x.tape(other);
