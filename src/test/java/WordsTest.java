@@ -57,7 +57,7 @@ public final class WordsTest {
     }
 
     private static void sumsOfKindOne() {
-        Expect.sentence("Terms", "a grows by subkey 0, b by subkey 1");
+        Expect.sentence("Terms", "sums and products are modulo 2^16 or 2^32");
         Subject x = Bytes.keyed(1, 0, KEY);
         long s0 = x.subkey(0);
         long s1 = x.subkey(1);
@@ -133,7 +133,7 @@ public final class WordsTest {
     }
 
     private static void productsOfKindTwo() {
-        Expect.sentence("Terms", "t is b times (2 b + 1), turned by 5");
+        Expect.sentence("Terms", "sums and products are modulo 2^16 or 2^32");
         long[] edges = {0, 1, 2, 32767, 32768, 46340, 46341, 65535, 65536, 65537,
             (1L << 31) - 1, 1L << 31, (1L << 31) + 1, WHOLE - 2, WHOLE - 1};
         for (long b : edges) {
