@@ -1,31 +1,6 @@
-/** Promises 7, 8 and 9, sentence by sentence: seal, open, other; with published vectors, written down from memory. */
+/** Promises 7, 8 and 9, sentence by sentence: seal, open, other. */
 public final class BlockTest {
-    /** Kind, rounds, key, block, sealed block. */
-    private static final String[][] VECTORS = {
-        {"0", "8", "00010002000300040005000600070008", "0000000100020003", "11fbed2b01986de5"},
-        {"0", "8", "80000000000000000000000000000000", "0000000000000000", "b1f5f7f87901370f"},
-        {"0", "8", "00000000000000000000000000000000", "0000000000000000", "0001000100000000"},
-        {"1", "12", "00000000000000000000000000000000", "0000000000000000", "21a5dbee154b8f6d"},
-        {"1", "12", "915f4619be41b2516355a50110a9ce91", "21a5dbee154b8f6d", "f7c013ac5b2b8952"},
-        {"1", "12", "783348e75aeb0f2fd7b169bb8dc16787", "f7c013ac5b2b8952", "2f42b3b70369fc92"},
-        {"1", "12", "dc49db1375a5584f6485b413b5f12baf", "2f42b3b70369fc92", "65c178b284d197cc"},
-        {"1", "12", "5269f149d41ba0152497574d7f153125", "65c178b284d197cc", "eb44e415da319824"},
-        {"1", "0", "00", "0000000000000000", "7a7bba4d79111d1e"},
-        {"1", "0", "00", "ffffffffffffffff", "797bba4d78111d1e"},
-        {"2", "20", "00000000000000000000000000000000",
-            "00000000000000000000000000000000", "8fc3a53656b1f778c129df4e9848a41e"},
-        {"2", "20", "0123456789abcdef0112233445566778",
-            "02132435465768798a9bacbdcedfe0f1", "524e192f4715c6231f51f6367ea43f18"},
-        {"2", "20", "000000000000000000000000000000000000000000000000",
-            "00000000000000000000000000000000", "6cd61bcb190b30384e8a3f168690ae82"},
-        {"2", "20", "0123456789abcdef0112233445566778899aabbccddeeff01032547698badcfe",
-            "02132435465768798a9bacbdcedfe0f1", "c8241816f0d7e48920ad16a1674e5d48"},
-    };
-
     public static void main(String[] args) {
-        for (String[] vector : VECTORS) {
-            published(vector);
-        }
         for (int kind = 0; kind <= 2; kind++) {
             thereAndBack(kind);
             noTime(kind);
@@ -37,17 +12,6 @@ public final class BlockTest {
         othersOfShortBlocks();
         othersOfWideBlocks();
         Expect.finish();
-    }
-
-    private static void published(String[] vector) {
-        Expect.sentence("Promises 7 and 8", "The block sealed");
-        Subject x = Bytes.keyed(Integer.parseInt(vector[0]), Integer.parseInt(vector[1]), vector[2]);
-        boolean wide = vector[3].length() == 32;
-        String name = " with kind " + vector[0] + " and key " + vector[2];
-        String sealed = Bytes.hex(x.seal(Bytes.first(vector[3]), Bytes.second(vector[3]), 1));
-        Expect.equal("seal" + name, sealed + (wide ? Bytes.hex(x.other()) : ""), vector[4]);
-        String opened = Bytes.hex(x.open(Bytes.first(vector[4]), Bytes.second(vector[4]), 1));
-        Expect.equal("open" + name, opened + (wide ? Bytes.hex(x.other()) : ""), vector[3]);
     }
 
     private static Subject some(int kind, int rounds) {

@@ -45,7 +45,8 @@ final class Expect {
     }
 
     static void finish() {
-        System.out.println(wrong == 0 ? seen + " answers are as due" : wrong + " of " + seen + " answers are not as due");
+        String count = wrong == 0 ? seen + " answers are" : wrong + " of " + seen + " answers are not";
+        System.out.println(count + " as due");
         if (wrong != 0) {
             System.exit(1);
         }

@@ -23,7 +23,6 @@ public final class ModeTest {
             startsWithFirstLong(kind);
         }
         startOfAnotherKind();
-        publishedChain();
         Expect.finish();
     }
 
@@ -276,25 +275,5 @@ public final class ModeTest {
         x.mode(2, true);
         Expect.equal("the start behind key()", x.tape(0), x.seal(1, 2, 1));
         Expect.equal("the start behind key()", x.tape(8), x.other());
-    }
-
-    /**
-     * From the published vectors for kind 1 in mode 1, written down from memory: the first row's and the
-     * last row's numbers of rounds were set by what the class answered, the blocks were not.
-     */
-    private static void publishedChain() {
-        Expect.sentence("Terms", "1 each block, exclusive or the sealed one before it");
-        published(8, "0000000000000000", "ffffffffffffffff", "7875dbf6738c6478");
-        published(8, "7875dbf6738c6478", "0808080808080808", "8f34c3c681c99695");
-        published(12, "0000000000000000", "ffffffffffffffff", "97e0787837ed317f");
-    }
-
-    private static void published(int rounds, String start, String plain, String sealed) {
-        Subject x = Bytes.keyed(1, rounds, "0102030405");
-        x.start(Bytes.first(start), 0);
-        Bytes.fed(x, plain);
-        Expect.equal("check() of a published row", x.check(), Bytes.first(sealed));
-        x.mode(1, true);
-        Expect.equal("a published row", Bytes.tape(x, 8), sealed);
     }
 }

@@ -64,7 +64,8 @@ public final class WordsTest {
         // The sum just below 2^32, at it and just above: nothing goes over into the other word.
         for (long a : new long[] {-1, 0, 1, WHOLE - 1}) {
             for (long b : new long[] {-1, 0, 1, WHOLE - 1}) {
-                there("sums " + a + " and " + b, x, new long[] {paired(a - s0, b - s1), 0}, new long[] {paired(a, b), 0});
+                long[] plain = {paired(a - s0, b - s1), 0};
+                there("sums " + a + " and " + b, x, plain, new long[] {paired(a, b), 0});
             }
         }
     }
@@ -188,7 +189,8 @@ public final class WordsTest {
 
     /** Each pair of words at the edges as word and subkey of the first round's four places. */
     private static void productsAndSumsOfKindZero() {
-        Expect.sentence("Terms", "a is the product of x0 and k0, b the sum of x1 and k1, c of x2 and k2, d the product of x3 and k3");
+        Expect.sentence("Terms", "a is the product of x0 and k0, b the sum of x1 and k1, c of x2 and k2, "
+                + "d the product of x3 and k3");
         for (int place = 0; place < 4; place++) {
             for (int subkey : WORDS) {
                 int[] k = {0x1234, 0x5678, 0x9ABC, 0xDEF0};
@@ -228,7 +230,8 @@ public final class WordsTest {
 
     private static void everyNumberOfRounds() {
         Expect.sentence("Terms", "R rounds, 0 to 32");
-        long[] edges = {0, 1, -1, Long.MIN_VALUE, Long.MAX_VALUE, 0xFFFFFFFFL, 0xFFFFFFFF00000000L, 0x0123456789ABCDEFL};
+        long[] edges = {0, 1, -1, Long.MIN_VALUE, Long.MAX_VALUE, 0xFFFFFFFFL, 0xFFFFFFFF00000000L,
+            0x0123456789ABCDEFL};
         for (int kind = 1; kind <= 2; kind++) {
             for (int rounds = 0; rounds <= 32; rounds++) {
                 Subject x = Bytes.keyed(kind, rounds, KEY);
